@@ -799,17 +799,17 @@ public final class CardBowl {
                 return;
             }
             advance();
-            expect("at");
+            choice("at");
             town.x[a] = number(0, 99);
             town.y[a] = number(0, 99);
-            expect("rank");
+            choice("rank");
             town.rank[a] = number(0, 9);
-            expect("home");
+            choice("home");
             town.weekday[a] = choice(WEEKDAYS);
             town.from[a] = number(0, 180);
             town.to[a] = number(town.from[a], 180);
-            town.came[a] = option("came", LAST_DAY);
-            town.bride[a] = option("bride", 99);
+            town.came[a] = takes("came") ? number(0, LAST_DAY) : 0;
+            town.bride[a] = takes("bride") ? number(0, 99) : 0;
             town.houses++;
         }
 
@@ -833,14 +833,13 @@ public final class CardBowl {
                 return;
             }
             advance();
-            expect("owes");
+            choice("owes");
             code.paying[line] = paying;
             code.kind[line] = choice(PAYINGS);
-            expect("within");
+            choice("within");
             code.within[line] = number(0, 99);
             code.start[line] = code.used;
-            if (fault == 0 && among("if") == 0) {
-                advance();
+            if (takes("if")) {
                 readTests();
             }
             code.stop[line] = code.used;
@@ -884,16 +883,13 @@ public final class CardBowl {
             return word;
         }
 
-        private void expect(String word) {
-            choice(word);
-        }
-
-        private int option(String word, int most) {
+        /** Goes over a word that may stand here or not. */
+        private boolean takes(String word) {
             if (fault != 0 || among(word) < 0) {
-                return 0;
+                return false;
             }
             advance();
-            return number(0, most);
+            return true;
         }
 
         private int number(int least, int most) {
@@ -1570,12 +1566,10 @@ public final class CardBowl {
                 sums[set] = LATE;
             }
             sums[0] = 0;
+            // minutes are alike on all days, so one look does for the week
+            reckonMinutes(a, all);
             for (int day = s.day; day < s.day + WEEK; day++) {
-                int open = openSpots(s, day) & inTime(day);
-                if (open != 0) {
-                    reckonMinutes(a, open);
-                    addDay(all, open);
-                }
+                addDay(all, openSpots(s, day) & inTime(day));
             }
             return sums[all] >= LATE ? NONE : sums[all];
         }

@@ -14,6 +14,7 @@ public final class RestTest {
         counts();
         images();
         imagesApart();
+        imagesOfDeeds();
         imageOfFault();
         rows();
         writes();
@@ -177,6 +178,38 @@ public final class RestTest {
         x.soon(1, 2);
         x.back(1);
         CHECK.due("ways are sought anew", x.soon(1, 2), -1);
+    }
+
+    private static void imagesOfDeeds() {
+        CardBowl x = Check.with(THREE + "sent owes sent within 1 if day same 0;sent owes call within 9;"
+            + "card owes card within 2;");
+        x.does(0, 1, 2);
+        x.does(1, 0, 2);
+        x.does(0, 1, 1);
+        x.does(0, 1, 0);
+        x.does(0, 2, 1);
+        x.does(1, 0, 1);
+        x.keep(0);
+        CHECK.due("worth(2, 0)", x.worth(2, 0), 2);
+        CHECK.due("debts(1)", x.debts(1), 0);
+        CHECK.due("count(6)", x.count(6), 2);
+        CHECK.due("debts as they came", x.debt(2, 0, 2), 2);
+        Check.town(x, TWO + "know 0 1;sent owes dinner within 1;");
+        x.days(6);
+        x.does(1, 0, 0);
+        x.does(1, 0, 0);
+        CHECK.due("worth(0, 14)", x.worth(0, 14), 4);
+        CHECK.due("another town", x.count(5), 2);
+        x.back(0);
+        CHECK.due("the ring of the image", x.ring(1), 3);
+        CHECK.due("beside itself", x.beside(0), x.count(3));
+        CHECK.due("count(6)", x.count(6), 2);
+        CHECK.due("a card of day 0", x.debt(0, 0, 3), 0);
+        CHECK.due("worth(2, 0)", x.worth(2, 0), 2);
+        CHECK.due("worth(0, 0)", x.worth(0, 0), 2);
+        x.does(2, 0, 1);
+        CHECK.due("worth(2, 0), all paid", x.worth(2, 0), 0);
+        CHECK.due("worth(0, 0)", x.worth(0, 0), 4);
     }
 
     private static void imageOfFault() {

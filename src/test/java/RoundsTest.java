@@ -42,8 +42,12 @@ public final class RoundsTest {
     }
 
     private static void roundIs(CardBowl x, int day, int worth, int over, int... order) {
+        // another house is asked for between, so that no answer leans on the call ahead of it
+        x.over(1, day);
         CHECK.due("worth", x.worth(0, day), worth);
+        x.worth(1, day);
         CHECK.due("over", x.over(0, day), over);
+        x.over(1, day);
         for (int i = 0; i < order.length; i++) {
             CHECK.due("round " + i, x.round(0, day, i), order[i]);
         }

@@ -112,6 +112,12 @@ public final class TapeAndTownTest {
         faulty("News 1;", 1, 0);
         faulty("news 1;", 1, 0);
         faulty("ne 1;", 1, 0);
+        faulty("newz 1;", 1, 0);
+        faulty("znew 1;", 1, 0);
+        faulty("new 1{", 1, 5);
+        faulty("new 1`", 1, 5);
+        faulty("new 1/", 1, 5);
+        faulty("new 1:", 1, 5);
         faulty("7 new;", 1, 0);
         faulty("new 1;\t", 1, 6);
         faulty("new 1.;", 1, 5);
