@@ -69,8 +69,6 @@ public final class CardBowl {
     public int town() {
         reader.read(tape, tapeSize);
         tapeSize = 0;
-        state.fault = reader.fault;
-        state.place = reader.place;
         if (reader.fault != 0) {
             return FAULTY;
         }
@@ -81,9 +79,9 @@ public final class CardBowl {
 
     public int fault(int what) {
         if (what == 0) {
-            return state.fault;
+            return reader.fault;
         }
-        return what == 1 ? state.place : NONE;
+        return what == 1 ? reader.place : NONE;
     }
 
     public int days(int n) {
@@ -732,8 +730,9 @@ public final class CardBowl {
 
         final Town town = new Town();
         final Code code = new Code();
+        /** Of the latest text; they stay here, so that no image brings older ones back. */
         int fault;
-        int place;
+        int place = NONE;
         private byte[] text;
         private int size;
         private int begin;
@@ -1139,7 +1138,7 @@ public final class CardBowl {
         }
     }
 
-    /** All that an image keeps. */
+    /** All that an image keeps: the tape, the slots and the latest fault are not in it. */
     private static final class State {
         final Town town = new Town();
         final Code code = new Code();
@@ -1149,8 +1148,6 @@ public final class CardBowl {
         final int[] knows = new int[MOST_HOUSES];
         int day;
         int paid;
-        int fault;
-        int place = NONE;
         /** Scratch of followCalls(): whom each house comes to by calls done, one behind the other. */
         private final int[] follows = new int[MOST_HOUSES];
 
@@ -1172,8 +1169,6 @@ public final class CardBowl {
             System.arraycopy(other.knows, 0, knows, 0, MOST_HOUSES);
             day = other.day;
             paid = other.paid;
-            fault = other.fault;
-            place = other.place;
         }
 
         int knew(int a, int b) {

@@ -72,8 +72,6 @@ final class Model {
         List<Debt> debts = new ArrayList<>();
         List<int[]> done = new ArrayList<>();
         int paid = 0;
-        int fault = 0;
-        int place = NONE;
 
         All copy() {
             All c = new All();
@@ -86,8 +84,6 @@ final class Model {
             c.debts = new ArrayList<>(debts);
             c.done = new ArrayList<>(done);
             c.paid = paid;
-            c.fault = fault;
-            c.place = place;
             return c;
         }
     }
@@ -98,6 +94,9 @@ final class Model {
     private static final List<String> SIGNS = Arrays.asList("more", "less", "same");
 
     All now = new All();
+    /** Of the latest town(): no image has them. */
+    private int fault = 0;
+    private int place = NONE;
     final All[] images = new All[3];
     final StringBuilder tape = new StringBuilder();
     final long[][] rows = new long[4][];
@@ -950,16 +949,18 @@ final class Model {
         tape.setLength(0);
         try {
             now = parse(text);
+            fault = 0;
+            place = NONE;
             return now.houses.size();
         } catch (Fault f) {
-            now.fault = f.kind;
-            now.place = f.place;
+            fault = f.kind;
+            place = f.place;
             return -4;
         }
     }
 
     int fault(int what) {
-        return what == 0 ? now.fault : what == 1 ? now.place : NONE;
+        return what == 0 ? fault : what == 1 ? place : NONE;
     }
 
     int days(int n) {

@@ -251,6 +251,8 @@ public final class RandomRunsTest {
             same("count", x.count(w), m.count(w));
         }
         same("count(10)", x.count(10), m.count(10));
+        same("fault(0)", x.fault(0), m.fault(0));
+        same("fault(1)", x.fault(1), m.fault(1));
         same("beside", x.beside(k), m.beside(k));
     }
 }

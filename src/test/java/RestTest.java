@@ -15,7 +15,7 @@ public final class RestTest {
         images();
         imagesApart();
         imagesOfDeeds();
-        imageOfFault();
+        faultBehindBack();
         rows();
         writes();
         pastes();
@@ -212,18 +212,31 @@ public final class RestTest {
         CHECK.due("worth(0, 0)", x.worth(0, 0), 4);
     }
 
-    private static void imageOfFault() {
-        CardBowl x = Check.with(THREE);
+    /** fault() tells of the latest town(), and back() is none. */
+    private static void faultBehindBack() {
+        CardBowl x = new CardBowl();
+        x.keep(2);
+        x.feed(0, 0, 0, 0, 0);
+        CHECK.due("a tape of zeros", x.town(), -4);
+        x.back(2);
+        CHECK.due("fault(0), kept ahead of any town", x.fault(0), 1);
+        CHECK.due("fault(1), kept ahead of any town", x.fault(1), 0);
+
+        Check.town(x, THREE);
         x.keep(0);
         Check.town(x, "new 100;");
-        CHECK.due("fault(0)", x.fault(0), 2);
         x.keep(1);
         x.back(0);
-        CHECK.due("all but tape and slots", x.fault(0), 0);
-        CHECK.due("fault(1)", x.fault(1), -1);
+        CHECK.due("fault(0), kept without a fault", x.fault(0), 2);
+        CHECK.due("fault(1), kept without a fault", x.fault(1), 4);
+
+        Check.town(x, THREE);
+        CHECK.due("fault(0), a good town", x.fault(0), 0);
         x.back(1);
-        CHECK.due("fault(0)", x.fault(0), 2);
-        CHECK.due("fault(1)", x.fault(1), 4);
+        CHECK.due("fault(0), kept with a fault", x.fault(0), 0);
+        CHECK.due("fault(1), kept with a fault", x.fault(1), -1);
+        CHECK.due("fault(2)", x.fault(2), -1);
+        CHECK.due("fault(-1)", x.fault(-1), -1);
     }
 
     private static void rows() {
