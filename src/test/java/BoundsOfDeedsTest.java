@@ -10,6 +10,7 @@ public final class BoundsOfDeedsTest {
         termIIThere();
         termIIPays();
         termIIFirstLine();
+        termIISigns();
         termIIDue();
         termIILikeKind();
         termIIParts();
@@ -132,6 +133,21 @@ public final class BoundsOfDeedsTest {
         CardBowl x = Check.with(THREE + "card owes sent within 1 if " + test + ";");
         x.does(0, 1, 1);
         return x.debts(1);
+    }
+
+    private static void termIISigns() {
+        B.term("II", "of which all TESTS hold");
+        for (int left = 0; left < 3; left++) {
+            for (int right = 0; right < 3; right++) {
+                B.due(left + " more " + right, holds(left + " more " + right), left > right ? 1 : 0);
+                B.due(left + " less " + right, holds(left + " less " + right), left < right ? 1 : 0);
+                B.due(left + " same " + right, holds(left + " same " + right), left == right ? 1 : 0);
+                String below = "0 minus " + left;
+                B.due(below + " more 0 minus " + right, holds(below + " more 0 minus " + right), left < right ? 1 : 0);
+                B.due(below + " less 0 minus " + right, holds(below + " less 0 minus " + right), left > right ? 1 : 0);
+                B.due(below + " same 0 minus " + right, holds(below + " same 0 minus " + right), left == right ? 1 : 0);
+            }
+        }
     }
 
     private static void termIIDue() {

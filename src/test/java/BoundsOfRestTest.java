@@ -304,7 +304,9 @@ public final class BoundsOfRestTest {
 
     private static void promise34Back() {
         B.promise(34, "All that is as IMAGE k has it: 0");
-        CardBowl x = Check.with(THREE + "card owes card within 1;sent owes dinner within 5;call owes sent within 3;new 5;introduce 6;");
+        CardBowl x = Check.with("card owes card within 1 if day same 0;sent owes call within 1 if day same 1;");
+        x.keep(0);
+        Check.town(x, THREE + "card owes card within 1;sent owes dinner within 5;call owes sent within 3;new 5;introduce 6;");
         x.does(0, 2, 1);
         x.does(0, 1, 2);
         x.does(1, 0, 2);
@@ -313,13 +315,14 @@ public final class BoundsOfRestTest {
         x.does(2, 0, 1);
         x.days(2);
         x.does(0, 2, 1);
+        x.does(1, 0, 1);
         x.keep(1);
         int[] before = all(x);
         Check.town(x, Bounds.ranked(7) + Bounds.home(3, 5, 90) + Bounds.houses(1) + "sent owes call within 9;" + Bounds.know(0, 1, 1, 2));
         for (int i = 0; i < 12; i++) {
-            x.does(1, 2 * (i % 2), 0);
             x.does(2 * (i % 2), 1, 0);
             x.days(5);
+            x.does(1, 2 * (i % 2), 0);
         }
         int[] between = all(x);
         B.due("another town", java.util.Arrays.equals(before, between) ? 1 : 0, 0);
@@ -341,6 +344,7 @@ public final class BoundsOfRestTest {
         }
         answers[n++] = x.first();
         answers[n++] = x.rings();
+        answers[n++] = x.beside(0);
         for (int a = 0; a < 3; a++) {
             for (int what = 0; what < 9; what++) {
                 answers[n++] = x.house(a, what);

@@ -227,6 +227,7 @@ public final class BoundsOfRoundsTest {
         B.term("V", "of like ones the row of the least first HOUSE, then second, ..");
         best("all next door", owing(CARD, Bounds.at(0, 0, 0, 0, 0), Bounds.at(0, 0, 0, 0, 0), Bounds.at(0, 0, 0, 0, 0)), 0, 6, 0, 1, 2, 3);
         best("two on one place", owing(CARD, Bounds.at(9, 0, 0, 0, 0), Bounds.at(5, 0, 0, 0, 0), Bounds.at(5, 0, 0, 0, 0)), 0, 6, 9, 2, 3, 1);
+        best("then the least of two on one place", owing(CARD, Bounds.at(9, 0, 0, 0, 0), Bounds.at(5, 0, 0, 0, 0), Bounds.at(9, 0, 0, 0, 0)), 0, 6, 9, 2, 1, 3);
         // whatever is seen ahead of the call on 4, it is over at 75
         CardBowl x = around(Bounds.at(30, 0, 0, 0, 0), Bounds.at(1, 0, 0, 0, 0), Bounds.at(2, 0, 0, 0, 0), Bounds.at(0, 0, 0, 60, 75));
         for (int b = 1; b <= 3; b++) {
@@ -512,6 +513,13 @@ public final class BoundsOfRoundsTest {
         v.does(1, 0, 0);
         B.due("a wed is behind the card's", v.fewest(0), -1);
         B.due("the card is lost", v.lost(0), 1);
+        CardBowl s = under("card owes card within 1;sent owes call within 9;", Bounds.at(0, 0, 1, 165, 180), Bounds.at(90, 90, 0, 0, 0));
+        s.does(1, 0, 0);
+        s.does(2, 0, 1);
+        B.due("a call on DAY 1, a card by DAY 1, not both on one", s.fewest(0), 2);
+        s.days(1);
+        B.due("on DAY 1 it can't be any more", s.fewest(0), -1);
+        B.due("though each alone can be", s.lost(0), 0);
         // one a day: the one that is due today first, whichever it is
         String[] far = {Bounds.at(90, 0, 0, 0, 0), Bounds.at(0, 90, 0, 0, 0)};
         for (int first = 1; first <= 2; first++) {

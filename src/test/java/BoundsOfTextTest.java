@@ -254,6 +254,13 @@ public final class BoundsOfTextTest {
         String most = "house at0 0rank1home sun0 9;".repeat(2) + line + "if1less2" + "and1less2".repeat(144);
         B.due("all hold", B.good(most + "and1less2;", 2).owes(0, 1, 1), 1);
         B.due("the last does not", B.good(most + "and2less1;", 2).owes(0, 1, 1), -1);
+        CardBowl again = new CardBowl();
+        for (int i = 0; i < 5; i++) {
+            B.due("a town in place of another", Check.town(again, most + "and1less2;"), 2);
+            B.due("all hold, again", again.owes(0, 1, 1), 1);
+            B.due("a town in place of another", Check.town(again, most + "and2less1;"), 2);
+            B.due("the last does not, again", again.owes(0, 1, 1), -1);
+        }
         B.due("the bytes", most.length() + 10 <= 1400 && most.length() + 19 > 1400 ? 1 : 0, 1);
     }
 
@@ -336,6 +343,7 @@ public final class BoundsOfTextTest {
                 B.faulty(text.substring(0, at) + "q" + text.substring(at + 1), 1, from);
                 B.faulty(text.substring(0, at) + "q" + text.substring(at), 1, from);
                 B.faulty(text.substring(0, at) + text.substring(at + 1), 1, from);
+                B.faulty(text.substring(0, at + 1) + "q" + text.substring(at + 1), 1, from);
             }
         }
     }
@@ -507,6 +515,16 @@ public final class BoundsOfTextTest {
         B.due("end(13) of 12", x.end(13), -1);
         x.town();
         B.due("its first bytes alone", x.count(9), 6);
+        String[] cut = {"new|s", "new 10|0;", "new 10;|x", "new 10; |;", "new 9|;", "|new 9;", "new |9;", "new 1|0;"};
+        int[] faults = {1, 1, 0, 0, 1, 0, 1, 1};
+        for (int i = 0; i < cut.length; i++) {
+            int n = cut[i].indexOf('|');
+            Check.feed(x, cut[i].substring(0, n) + cut[i].substring(n + 1));
+            B.due("end(" + n + ")", x.end(n), n);
+            x.town();
+            B.due("fault(0) of " + cut[i], x.fault(0), faults[i]);
+            B.due("fault(1) of " + cut[i], x.fault(1), faults[i] == 0 ? -1 : n);
+        }
         Check.feed(x, "new 8;");
         B.due("end(0)", x.end(0), 0);
         x.town();
