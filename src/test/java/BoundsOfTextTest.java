@@ -255,7 +255,7 @@ public final class BoundsOfTextTest {
         B.due("all hold", B.good(most + "and1less2;", 2).owes(0, 1, 1), 1);
         B.due("the last does not", B.good(most + "and2less1;", 2).owes(0, 1, 1), -1);
         CardBowl again = new CardBowl();
-        for (int i = 0; i < 5; i++) {
+        for (int i = 0; i < 2; i++) {
             B.due("a town in place of another", Check.town(again, most + "and1less2;"), 2);
             B.due("all hold, again", again.owes(0, 1, 1), 1);
             B.due("a town in place of another", Check.town(again, most + "and2less1;"), 2);
