@@ -116,6 +116,8 @@ public final class BoundsOfDeedsTest {
         B.due("one", Check.with(THREE + other + "card owes call within 1;").owes(0, 1, 1), 2);
         B.due("of two the first", Check.with(THREE + "card owes call within 1;card owes card within 1;").owes(0, 1, 1), 2);
         B.due("the first does not hold", Check.with(THREE + "card owes call within 1 if 1 less 1;card owes card within 1;").owes(0, 1, 1), 1);
+        B.due("one without TESTS ahead of one with", Check.with(THREE + "card owes call within 1;card owes card within 1 if 5 same 5;").owes(0, 1, 1), 2);
+        B.due("and behind it", Check.with(THREE + "card owes card within 1 if 5 same 6;card owes call within 1;sent owes sent within 1 if 5 same 5;").owes(0, 1, 1), 2);
         B.due("none holds", Check.with(THREE + "card owes call within 1 if 1 less 1;card owes card within 1 if 1 more 1;").owes(0, 1, 1), -1);
         String all = "1 same 1 and 1 less 2 and 2 more 1";
         B.due("all hold", holds(all), 1);

@@ -239,6 +239,10 @@ public final class BoundsOfRoundsTest {
         owe(y, 1, CARD);
         owe(y, 2, CARD);
         owe(y, 3, CALL);
+        CardBowl v = around(Bounds.at(1, 0, 0, 0, 0), Bounds.at(0, 0, 0, 0, 15));
+        owe(v, 1, CARD);
+        owe(v, 2, CALL);
+        best("a card a minute off, a call that must begin at 0", v, 0, 5, 16, 2, 1);
         CardBowl z = around(Bounds.at(30, 0, 0, 0, 0), Bounds.at(0, 0, 0, 60, 75));
         owe(z, 1, CARD);
         owe(z, 2, CALL);
@@ -285,6 +289,15 @@ public final class BoundsOfRoundsTest {
             B.due("worth(" + none + ", 3)", x.worth(none, 3), -2);
             B.due("worth(0, " + none + ")", x.worth(0, none), -2);
         }
+        CardBowl full = Check.with(Bounds.houses(16) + Bounds.know(1, 0, 14, 15) + CODE);
+        owe(full, 1, CARD);
+        full.does(0, 1, 0);
+        full.does(14, 15, 1);
+        for (int a = 0; a < 16; a++) {
+            B.due("of sixteen, " + a, full.worth(a, 0), a == 0 ? 2 : a == 1 ? 3 : a == 15 ? 2 : 0);
+        }
+        B.due("the one of house 15", full.round(15, 0, 0), 14);
+        B.due("house 16", full.worth(16, 0), -2);
         Bounds.go(x, 399);
         B.due("today is 399", x.worth(0, 399), 2);
         B.due("398 then", x.worth(0, 398), -2);
@@ -508,6 +521,11 @@ public final class BoundsOfRoundsTest {
             once.does(b, 0, 0);
         }
         B.due("a house is seen once for all", once.fewest(0), 1);
+        once.does(0, 1, 2);
+        once.does(0, 2, 1);
+        once.does(2, 0, 1);
+        B.due("the other one, asked anew", once.fewest(0), 1);
+        B.due("none is lost", once.lost(0), 0);
         CardBowl v = under("card owes card within 2;sent owes call within 9;", Bounds.at(1, 0, 3, 0, 180));
         v.does(1, 0, 1);
         v.does(1, 0, 0);

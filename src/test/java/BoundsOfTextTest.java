@@ -362,6 +362,12 @@ public final class BoundsOfTextTest {
         B.faultyAt(1, "new |/7;");
         B.faultyAt(1, "new |+7;");
         B.faultyAt(1, "new |-7;");
+        for (char other : new char[] {'/', ':', '-', '.', 'o'}) {
+            B.faultyAt(1, "introduce |" + other + ";");
+            B.faultyAt(1, "know |" + other + " 1;");
+            B.faultyAt(1, Bounds.houses(2) + "know |" + other + " 1;");
+            B.faultyAt(1, Bounds.houses(2) + "know 0 |" + other + ";");
+        }
         B.term("I", "2 a number out of its bounds");
         String[] wrapped = {"4294967296", "4294967303", "2147483648", "18446744073709551616", "18446744073709551623",
             "99999999999999999999999999999999999999999"};

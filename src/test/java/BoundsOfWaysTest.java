@@ -327,6 +327,17 @@ public final class BoundsOfWaysTest {
         }
         CardBowl y = Check.with(Bounds.houses(2));
         B.due("never", y.path(0, 1, 0), -1);
+        // the same chain with 2 at its end: all others lie between
+        text = new StringBuilder(Bounds.houses(16) + "introduce 1;" + Bounds.know(0, 1, 1, 3, 15, 2));
+        for (int i = 3; i < 15; i++) {
+            text.append(Bounds.know(i, i + 1));
+        }
+        CardBowl z = Check.with(text.toString());
+        B.due("fourteen calls", z.soon(0, 2), 14);
+        B.due("the first", z.path(0, 2, 0), 3);
+        B.due("the one ahead of the last", z.path(0, 2, 12), 15);
+        B.due("the last", z.path(0, 2, 13), 2);
+        B.due("one behind it", z.path(0, 2, 14), -1);
     }
 
     private static void promise25Reach() {
@@ -358,6 +369,11 @@ public final class BoundsOfWaysTest {
         CardBowl strangers = Check.with(Bounds.houses(2));
         B.due("knows none", strangers.drop(0), -1);
         B.due("nobody is dropped by it", x.known(0, 1), 1);
+        CardBowl all = circle(16);
+        for (int a = 0; a < 16; a++) {
+            B.due("of sixteen, by " + a, all.drop(a), a == 0 ? 1 : a == 15 ? 0 : a - 1);
+        }
+        B.due("drop(16)", all.drop(16), -2);
     }
 
     private static void promise27Tie() {
