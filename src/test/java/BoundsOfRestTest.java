@@ -310,6 +310,8 @@ public final class BoundsOfRestTest {
         x.does(0, 2, 1);
         x.does(0, 1, 2);
         x.does(1, 0, 2);
+        x.does(2, 0, 2);
+        x.does(0, 1, 3);
         x.days(1);
         x.does(0, 1, 0);
         x.does(2, 0, 1);
